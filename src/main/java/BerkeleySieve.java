@@ -412,8 +412,11 @@ public final class BerkeleySieve {
             if (size >= MOST) {
                 return false;
             }
+            code[size] = newCode;
+            jt[size] = newJt;
+            jf[size] = newJf;
+            k[size] = newK;
             size++;
-            set(size - 1, newCode, newJt, newJf, newK);
             return true;
         }
 
@@ -436,11 +439,13 @@ public final class BerkeleySieve {
 
         /** To which instruction a way of a jump leads; it doesn't wrap, so none leads back. */
         long target(int i, int way) {
-            long distance = way == 0 ? jt(i) : jf(i);
-            if (code(i) == JA) {
-                distance = unsigned(k(i));
+            if (!has(i)) {
+                return NONE;
             }
-            return i + 1L + distance;
+            if (code[i] == JA) {
+                return i + 1L + unsigned(k[i]);
+            }
+            return i + 1L + (way == 0 ? jt[i] : jf[i]);
         }
 
         void lead(int i, int way, int to) {
@@ -846,19 +851,17 @@ public final class BerkeleySieve {
             int times = 0;
             for (int n = 0; n < MOST_ROUNDS; n++) {
                 times += followAll(program);
-                if (!joinWays(program) && !dropOne(program)) {
+                boolean done = joinWays(program)
+                        || dropJumpToNext(program)
+                        || dropUnreached(program)
+                        || dropIdle(program)
+                        || dropOverwritten(program);
+                if (!done) {
                     break;
                 }
                 times++;
             }
             return times;
-        }
-
-        private boolean dropOne(Program program) {
-            return dropJumpToNext(program)
-                    || dropUnreached(program)
-                    || dropIdle(program)
-                    || dropOverwritten(program);
         }
 
         // To do this at one instruction never makes it possible at one before, so once through
@@ -1112,9 +1115,10 @@ public final class BerkeleySieve {
 
         private final Bytes text;
         private int at;
-        // The latest word or number begins and ends here; blanks may have been passed since.
-        private int tokenBegin;
-        private int tokenEnd;
+        // The latest word begins and ends here; blanks may have been passed since.
+        private int wordBegin;
+        private int wordEnd;
+        // The latest number, if no word has come since.
         private long value;
 
         Reader(Bytes text) {
@@ -1124,8 +1128,8 @@ public final class BerkeleySieve {
 
         void rewind() {
             at = 0;
-            tokenBegin = 0;
-            tokenEnd = 0;
+            wordBegin = 0;
+            wordEnd = 0;
             value = 0;
         }
 
@@ -1143,6 +1147,12 @@ public final class BerkeleySieve {
             }
         }
 
+        void goBack(int place) {
+            if (place >= 0 && place < at) {
+                at = place;
+            }
+        }
+
         int here() {
             return text.at(at);
         }
@@ -1156,7 +1166,7 @@ public final class BerkeleySieve {
             while (at < text.size() && text.at(at) == BLANK) {
                 at++;
             }
-            return here();
+            return text.at(at);
         }
 
         boolean take(int sign) {
@@ -1195,23 +1205,29 @@ public final class BerkeleySieve {
             if (!isLetter(peek())) {
                 return false;
             }
-            tokenBegin = at;
-            while (at < text.size() && (isLetter(here()) || isDigit(here()))) {
+            value = 0;
+            wordBegin = at;
+            while (at < text.size() && (isLetter(text.at(at)) || isDigit(text.at(at)))) {
                 at++;
             }
-            tokenEnd = at;
+            wordEnd = at;
             return true;
         }
 
-        /** Whether just this word comes, of which the first sign has been seen. */
-        boolean keyword(String name) {
-            for (int i = 0; i < name.length(); i++) {
-                if (here() != name.charAt(i)) {
+        boolean takeSigns(String signs) {
+            peek();
+            for (int i = 0; i < signs.length(); i++) {
+                if (text.at(at) != signs.charAt(i)) {
                     return false;
                 }
                 forward();
             }
-            return !isLetter(here()) && !isDigit(here());
+            return true;
+        }
+
+        /** Whether just this word comes, and not a longer one. */
+        boolean keyword(String name) {
+            return takeSigns(name) && !isLetter(text.at(at)) && !isDigit(text.at(at));
         }
 
         boolean number() {
@@ -1219,15 +1235,12 @@ public final class BerkeleySieve {
             if (!isDigit(peek())) {
                 return false;
             }
-            tokenBegin = at;
-            boolean right = here() == '0' && next() == 'x' ? hexadecimal() : decimal();
-            tokenEnd = at;
-            return right;
+            return text.at(at) == '0' && next() == 'x' ? hexadecimal() : decimal();
         }
 
         private boolean decimal() {
-            while (at < text.size() && isDigit(here())) {
-                long longer = value * 10 + here() - '0';
+            while (at < text.size() && isDigit(text.at(at))) {
+                long longer = value * 10 + text.at(at) - '0';
                 if (longer > Program.NUMBER) {
                     return false;
                 }
@@ -1241,28 +1254,28 @@ public final class BerkeleySieve {
             forward();
             forward();
             int digits = 0;
-            while (digits < HEXADECIMAL_DIGITS && hexadecimalDigit(here()) >= 0) {
-                value = value * 16 + hexadecimalDigit(here());
+            while (digits < HEXADECIMAL_DIGITS && hexadecimalDigit(text.at(at)) >= 0) {
+                value = value * 16 + hexadecimalDigit(text.at(at));
                 digits++;
                 forward();
             }
-            return digits > 0 && hexadecimalDigit(here()) < 0;
+            return digits > 0 && hexadecimalDigit(text.at(at)) < 0;
         }
 
         private static int hexadecimalDigit(int sign) {
-            if (isDigit(sign)) {
+            if (sign >= '0' && sign <= '9') {
                 return sign - '0';
             }
             return sign >= 'a' && sign <= 'f' ? sign - 'a' + 10 : NONE;
         }
 
-        /** Whether the latest word or number was written just so. */
+        /** Whether the latest word was written just so. */
         boolean wasWritten(String name) {
-            if (tokenEnd - tokenBegin != name.length()) {
+            if (wordEnd - wordBegin != name.length()) {
                 return false;
             }
             for (int i = 0; i < name.length(); i++) {
-                if (text.at(tokenBegin + i) != name.charAt(i)) {
+                if (text.at(wordBegin + i) != name.charAt(i)) {
                     return false;
                 }
             }
@@ -1281,11 +1294,11 @@ public final class BerkeleySieve {
         }
 
         private boolean isName(int from) {
-            if (tokenEnd - tokenBegin > Program.NAME_SIGNS) {
+            if (wordEnd - wordBegin > Program.NAME_SIGNS) {
                 return false;
             }
             for (int i = 0; i < Program.NAME_SIGNS && from + i < Program.NAMES.length(); i++) {
-                int sign = tokenBegin + i < tokenEnd ? text.at(tokenBegin + i) : BLANK;
+                int sign = wordBegin + i < wordEnd ? text.at(wordBegin + i) : BLANK;
                 if (sign != Program.NAMES.charAt(from + i)) {
                     return false;
                 }
@@ -1295,11 +1308,11 @@ public final class BerkeleySieve {
 
         /** The latest word as a number of its own, above 0; 0 if it is too long for a label. */
         long label() {
-            if (tokenEnd - tokenBegin > LABEL_SIGNS) {
+            if (wordEnd - wordBegin > LABEL_SIGNS) {
                 return 0;
             }
             long packed = 0;
-            for (int i = tokenBegin; i < tokenEnd; i++) {
+            for (int i = wordBegin; i < wordEnd; i++) {
                 int sign = text.at(i);
                 packed = packed * 37 + (isLetter(sign) ? sign - 'a' + 1 : sign - '0' + 27);
             }
@@ -1327,7 +1340,6 @@ public final class BerkeleySieve {
         private Program program;
         private int labelsTold;
         private int line;
-        private int k;
 
         Assembler(Reader reader) {
             this.reader = reader;
@@ -1339,7 +1351,6 @@ public final class BerkeleySieve {
             program = null;
             labelsTold = 0;
             line = 0;
-            k = 0;
         }
 
         int line() {
@@ -1352,7 +1363,10 @@ public final class BerkeleySieve {
             labelsTold = 0;
             reader.rewind();
             for (line = 1; line <= TAPE_BYTES + 1; line++) {
-                int error = oneLine();
+                int error = beginLine();
+                if (error == 0 && !reader.lineEnds()) {
+                    error = instruction();
+                }
                 if (error != 0) {
                     return error;
                 }
@@ -1363,24 +1377,14 @@ public final class BerkeleySieve {
             return resolveAll();
         }
 
-        private int oneLine() {
-            if (reader.lineEnds()) {
+        /** Takes the label that may stand there. A word without a colon is left for later. */
+        private int beginLine() {
+            int begin = reader.place();
+            if (!reader.word() || reader.peek() != ':') {
+                reader.goBack(begin);
                 return 0;
             }
-            if (!reader.word()) {
-                return CANT_STAND;
-            }
-            if (reader.peek() == ':') {
-                int error = tellLabel();
-                if (error != 0 || reader.lineEnds()) {
-                    return error;
-                }
-                if (!reader.word()) {
-                    return CANT_STAND;
-                }
-            }
-            int name = reader.instructionName();
-            return name < 0 ? NO_NAME : instruction(name);
+            return tellLabel();
         }
 
         private int tellLabel() {
@@ -1409,33 +1413,37 @@ public final class BerkeleySieve {
             return NONE;
         }
 
-        private int instruction(int name) {
-            k = 0;
+        private int instruction() {
+            if (!reader.word()) {
+                return CANT_STAND;
+            }
+            int name = reader.instructionName();
+            if (name < 0) {
+                return NO_NAME;
+            }
             int code = Program.codeOf(name, operand(name));
             if (code < 0) {
                 return CANT_STAND;
             }
+            int k = (int) reader.value();
             long yes = 0;
             long no = 0;
-            if (code == Program.JA || Program.isBranch(code)) {
-                if (code != Program.JA && !reader.take(',')) {
+            boolean branches = Program.isBranch(code);
+            if (code == Program.JA || branches) {
+                if (branches && !reader.take(',')) {
                     return CANT_STAND;
                 }
                 yes = label();
-                if (yes == 0) {
+                boolean both = branches && reader.take(',');
+                no = both ? label() : 0;
+                if (yes == 0 || both && no == 0) {
                     return CANT_STAND;
                 }
-                if (code != Program.JA && reader.take(',')) {
-                    no = label();
-                    if (no == 0) {
-                        return CANT_STAND;
-                    }
-                }
             }
-            return reader.lineEnds() ? keep(code, yes, no) : CANT_STAND;
+            return reader.lineEnds() ? keep(code, k, yes, no) : CANT_STAND;
         }
 
-        private int keep(int code, long yes, long no) {
+        private int keep(int code, int k, long yes, long no) {
             int i = program.size();
             if (i >= Program.MOST || !program.add(code, 0, 0, k)) {
                 return TOO_MANY;
@@ -1459,13 +1467,13 @@ public final class BerkeleySieve {
                 return Program.LABEL;
             }
             if (reader.take('#')) {
-                return number() ? Program.NUMBERED : NONE;
+                return reader.number() ? Program.NUMBERED : NONE;
             }
             if (reader.take('[')) {
                 return place();
             }
             if (reader.take('M')) {
-                return reader.take('[') && number() && reader.take(']') ? Program.WORD : NONE;
+                return reader.take('[') && reader.number() && reader.take(']') ? Program.WORD : NONE;
             }
             if (reader.word()) {
                 return named();
@@ -1473,20 +1481,12 @@ public final class BerkeleySieve {
             return header() ? Program.HEADER : NONE;
         }
 
-        private boolean number() {
-            if (!reader.number()) {
-                return false;
-            }
-            k = (int) reader.value();
-            return true;
-        }
-
         private int place() {
             if (reader.word()) {
-                return reader.wasWritten("x") && reader.take('+') && number() && reader.take(']')
+                return reader.wasWritten("x") && reader.take('+') && reader.number() && reader.take(']')
                         ? Program.PLACE_BEHIND_X : NONE;
             }
-            return number() && reader.take(']') ? Program.PLACE : NONE;
+            return reader.number() && reader.take(']') ? Program.PLACE : NONE;
         }
 
         private int named() {
@@ -1499,11 +1499,12 @@ public final class BerkeleySieve {
             return reader.wasWritten("a") ? Program.ACCUMULATOR : NONE;
         }
 
+        // The two numbers can't go on in another way, since a sign is due behind each.
         private boolean header() {
-            return reader.number() && reader.wasWritten("4")
+            return reader.takeSigns("4")
                     && reader.take('*') && reader.take('(') && reader.take('[')
-                    && number() && reader.take(']') && reader.take('&')
-                    && reader.number() && reader.wasWritten("0xf") && reader.take(')');
+                    && reader.number() && reader.take(']') && reader.take('&')
+                    && reader.takeSigns("0xf") && reader.take(')');
         }
 
         private int resolveAll() {
@@ -2015,27 +2016,23 @@ public final class BerkeleySieve {
         }
 
         private void unit(int part, int depth, int level) {
-            switch (tree.kind(part)) {
-                case Tree.NUMBER:
-                    emit(Program.LD_NUMBER, tree.value(part));
-                    break;
-                case Tree.LENGTH:
-                    emit(Program.LD_LEN, 0);
-                    break;
-                default:
-                    bytes(part, depth, level);
-                    break;
+            int kind = tree.kind(part);
+            if (kind == Tree.NUMBER) {
+                emit(Program.LD_NUMBER, tree.value(part));
+                return;
             }
-        }
-
-        private void bytes(int part, int depth, int level) {
+            if (kind == Tree.LENGTH) {
+                emit(Program.LD_LEN, 0);
+                return;
+            }
             int place = tree.left(part);
+            int width = widthOf(tree.value(part));
             if (tree.kind(place) == Tree.NUMBER) {
-                emit(0x20 + widthOf(tree.value(part)), tree.value(place));
+                emit(0x20 + width, tree.value(place));
             } else {
                 sum(place, depth, level + 1);
                 emit(Program.TAX, 0);
-                emit(0x40 + widthOf(tree.value(part)), 0);
+                emit(0x40 + width, 0);
             }
         }
 
