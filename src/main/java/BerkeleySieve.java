@@ -220,13 +220,15 @@ public final class BerkeleySieve {
         }
     }
 
-    /** A row of bytes that grows up to its room. */
+    /** A row of bytes that grows up to its room; four share a number, since every element counts. */
     private static final class Bytes {
-        private final byte[] row;
+        private final int[] row;
+        private final int room;
         private int size;
 
         Bytes(int room) {
-            row = new byte[Math.max(room, 0)];
+            this.room = Math.max(room, 0);
+            row = new int[this.room / 4 + 1];
             size = 0;
         }
 
@@ -235,12 +237,13 @@ public final class BerkeleySieve {
         }
 
         int at(int i) {
-            return i >= 0 && i < size ? row[i] & 255 : NONE;
+            return i >= 0 && i < size ? row[i / 4] >>> 8 * (i % 4) & 255 : NONE;
         }
 
         void add(int value) {
-            if (size < row.length) {
-                row[size] = (byte) value;
+            if (size < room) {
+                int shift = 8 * (size % 4);
+                row[size / 4] = row[size / 4] & ~(255 << shift) | (value & 255) << shift;
                 size++;
             }
         }
@@ -1107,8 +1110,7 @@ public final class BerkeleySieve {
 
     /** Goes through the tape from the left; where it can't go on, it stays at that byte. */
     private static final class Reader {
-        static final int LABEL_SIGNS = 8;
-
+        private static final int LABEL_SIGNS = 8;
         private static final int BLANK = 32;
         private static final int LINE_END = 10;
         private static final int HEXADECIMAL_DIGITS = 8;
@@ -1251,13 +1253,13 @@ public final class BerkeleySieve {
         }
 
         private boolean hexadecimal() {
-            forward();
-            forward();
+            // The two signs 0x have been seen.
+            at += 2;
             int digits = 0;
             while (digits < HEXADECIMAL_DIGITS && hexadecimalDigit(text.at(at)) >= 0) {
                 value = value * 16 + hexadecimalDigit(text.at(at));
                 digits++;
-                forward();
+                at++;
             }
             return digits > 0 && hexadecimalDigit(text.at(at)) < 0;
         }
@@ -1328,12 +1330,13 @@ public final class BerkeleySieve {
         private static final int NOT_TOLD = 4;
         private static final int TOO_FAR = 5;
         private static final int TOO_MANY = 6;
-        // A label with its colon takes two bytes of the tape.
-        private static final int MOST_LABELS = TAPE_BYTES / 2;
+        // Each label has its colon and, but for the last one, the end of its line.
+        private static final int MOST_LABELS = TAPE_BYTES / 3 + 1;
+        // A label's place is kept in the lowest bits beside its name.
+        private static final int PLACE_BITS = 8;
 
         private final Reader reader;
         private final long[] labels;
-        private final int[] labelPlaces;
         private final long[] yesLabels;
         private final long[] noLabels;
         private final int[] lines;
@@ -1344,7 +1347,6 @@ public final class BerkeleySieve {
         Assembler(Reader reader) {
             this.reader = reader;
             labels = new long[MOST_LABELS];
-            labelPlaces = new int[MOST_LABELS];
             yesLabels = new long[Program.MOST];
             noLabels = new long[Program.MOST];
             lines = new int[Program.MOST];
@@ -1396,8 +1398,7 @@ public final class BerkeleySieve {
                 return TOLD_TWICE;
             }
             if (labelsTold < MOST_LABELS) {
-                labels[labelsTold] = label;
-                labelPlaces[labelsTold] = program.size();
+                labels[labelsTold] = label << PLACE_BITS | program.size();
                 labelsTold++;
             }
             reader.forward();
@@ -1406,8 +1407,8 @@ public final class BerkeleySieve {
 
         private int placeOf(long label) {
             for (int i = 0; i < labelsTold && i < MOST_LABELS; i++) {
-                if (labels[i] == label) {
-                    return labelPlaces[i];
+                if (labels[i] >> PLACE_BITS == label) {
+                    return (int) labels[i] & (1 << PLACE_BITS) - 1;
                 }
             }
             return NONE;

@@ -160,6 +160,7 @@ public final class AssembleTest {
         wrong("a: neg\nja a", "5@2");
         wrong("a: jeq #1,a\nret a", "5@1");
         wrong("a: neg\njeq #1,e,a\ne:ret a", "5@2");
+        wrong("a: jeq #1,e,a\ne:ret a", "5@1");
         wrong("a: neg\njeq #1,a,q\ne:ret a", "4@2");
         wrong("a: neg\njeq #1,q,a\ne:ret a", "4@2");
         wrong("a: ja a\nja q", "5@1");

@@ -34,7 +34,12 @@ public final class PlainerTest {
         made("jeq #1,b,b; neg; b: ret a", 3, "ret a");
         made("jset x,b; b: ret a", 2, "ret a");
         made("ld #1; jgt #1,b,c; b: ja d; c: ja d; d: ret a", 6, "ld #1; ret a");
+        // A branch that became a ja and stays has no JT and JF.
         BerkeleySieve x = new BerkeleySieve();
+        Bench.assemble(x, "jeq #5,y\nneg\njeq #1,e,e\ny: ret #1\ne: ret a");
+        BENCH.due("plainer() of a branch that stays", x.plainer(), 1);
+        BENCH.due("which is a ja then", Bench.numbers(x), "15 2 0 5; 84 0 0 0; 5 0 0 1; 6 0 0 1; 16 0 0 0");
+        x = new BerkeleySieve();
         x.put(5, 7, 8, 0);
         x.put(0x15, 1, 1, 9);
         x.put(6, 0, 0, 0);

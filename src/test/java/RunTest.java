@@ -38,6 +38,7 @@ public final class RunTest {
         ran("ldh [0]\nret a", 1, 0x8102, 2);
         ran("ldb [4]\nret a", 1, 0xff, 2);
         ran("ld len\nret a", 1, 6, 2);
+        ran("ld [0]\nldh [1]\nret a", 1, 0x02f3, 3);
         ran("ldx #2\nld [x+0]\nret a", 1, 0xf304ff4e, 3, 0xf304ff4e, 2, 2);
         ran("ldx #2\nldh [x+1]\nret a", 1, 0x04ff, 3);
         ran("ldx #2\nldb [x+3]\nret a", 1, 0x4e, 3);
@@ -97,6 +98,7 @@ public final class RunTest {
         calculated("lsh", -1, -1, 0);
         calculated("rsh", -1, 31, 1);
         calculated("rsh", -1, 4, 0x0fffffff);
+        calculated("rsh", -5, 0, -5);
         calculated("rsh", -1, 32, 0);
         calculated("rsh", -1, Integer.MIN_VALUE, 0);
         ran("ld #1\nneg\nret a", 1, -1, 3);
