@@ -339,7 +339,7 @@ public final class BerkeleySieve {
         static int rowOf(int code) {
             int low = 0;
             int high = CODES.length - 1;
-            while (low <= high) {
+            for (int n = 0; n < CODES.length && low <= high; n++) {
                 int middle = (low + high) >>> 1;
                 if (CODES[middle] == code) {
                     return middle;
