@@ -3,6 +3,7 @@ import java.nio.charset.StandardCharsets;
 /** What the tests share: answers that are due, and texts that go on the tape. */
 final class Bench {
     private final String name;
+    private String sentence = "";
     private int checks;
     private int wrong;
 
@@ -10,11 +11,21 @@ final class Bench {
         this.name = name;
     }
 
+    /** Makes an object anew, since nothing is promised of one that has been asked too often. */
+    interface Made {
+        BerkeleySieve make();
+    }
+
+    /** The sentence of the document that the answers from here on are due to. */
+    void says(String words) {
+        sentence = " (\"" + words + "\")";
+    }
+
     void due(String call, long got, long want) {
         checks++;
         if (got != want) {
             wrong++;
-            System.out.println(name + ": " + call + " answered " + got + ", due is " + want);
+            System.out.println(name + sentence + ": " + call + " answered " + got + ", due is " + want);
         }
     }
 
@@ -26,7 +37,7 @@ final class Bench {
         checks++;
         if (!got.equals(want)) {
             wrong++;
-            System.out.println(name + ": " + call + " answered\n  " + got + "\n  due is\n  " + want);
+            System.out.println(name + sentence + ": " + call + " answered\n  " + got + "\n  due is\n  " + want);
         }
     }
 
@@ -88,23 +99,65 @@ final class Bench {
         return text.toString();
     }
 
+    private static String numbers(BerkeleySieve sieve, int i) {
+        return Integer.toHexString(sieve.insn(i, 0)) + " " + sieve.insn(i, 1) + " " + sieve.insn(i, 2) + " "
+                + Integer.toUnsignedString(sieve.insn(i, 3));
+    }
+
     /** All instructions as numbers: "CODE JT JF K; ..". */
     static String numbers(BerkeleySieve sieve) {
+        return numbers(() -> sieve);
+    }
+
+    /** The same of a long program: an object is asked for some fifty of its instructions alone. */
+    static String numbers(Made made) {
+        BerkeleySieve sieve = made.make();
+        int count = sieve.count(0);
         StringBuilder text = new StringBuilder();
-        for (int i = 0; i < sieve.count(0); i++) {
-            text.append(i == 0 ? "" : "; ").append(Integer.toHexString(sieve.insn(i, 0)))
-                    .append(' ').append(sieve.insn(i, 1)).append(' ').append(sieve.insn(i, 2))
-                    .append(' ').append(Integer.toUnsignedString(sieve.insn(i, 3)));
+        for (int i = 0; i < count; i++) {
+            sieve = i > 0 && i % 50 == 0 ? made.make() : sieve;
+            text.append(i == 0 ? "" : "; ").append(numbers(sieve, i));
         }
         return text.toString();
     }
 
     /** All instructions written: "ld #1; ret a". */
     static String listing(BerkeleySieve sieve) {
+        int count = sieve.count(0);
         StringBuilder text = new StringBuilder();
-        for (int i = 0; i < sieve.count(0); i++) {
+        for (int i = 0; i < count; i++) {
             text.append(i == 0 ? "" : "; ").append(written(sieve, i));
         }
         return text.toString();
+    }
+
+    /** A new object whose program has these rows of CODE, JT, JF and K. */
+    static BerkeleySieve program(int[]... rows) {
+        BerkeleySieve sieve = new BerkeleySieve();
+        for (int[] row : rows) {
+            sieve.put(row[0], row[1], row[2], row[3]);
+        }
+        return sieve;
+    }
+
+    static int[] row(int code, int jt, int jf, int k) {
+        return new int[] {code, jt, jf, k};
+    }
+
+    static int[] row(int code, int k) {
+        return row(code, 0, 0, k);
+    }
+
+    /** A new object whose program is that of the text. */
+    static BerkeleySieve assembled(String text) {
+        BerkeleySieve sieve = new BerkeleySieve();
+        assemble(sieve, text);
+        return sieve;
+    }
+
+    static BerkeleySieve compiled(String text) {
+        BerkeleySieve sieve = new BerkeleySieve();
+        compile(sieve, text);
+        return sieve;
     }
 }

@@ -50,7 +50,7 @@ public final class ExpressionOracleTest {
         String code = new Code(text).numbers();
         BENCH.due("fault of " + text, Bench.fault(x), code == null ? "8@-1" : "0@-1");
         if (code != null) {
-            BENCH.due("program of " + text, Bench.numbers(x), code);
+            BENCH.due("program of " + text, Bench.numbers(() -> Bench.compiled(text)), code);
             BENCH.due("why() of " + text, x.why(), 0);
         }
         return 1;

@@ -88,24 +88,28 @@ public final class LanguageTest {
     private static void words(String source) {
         String code = source.replaceAll("(?s)/\\*.*?\\*/", "").replaceAll("//[^\n]*", "");
         String bare = code.replaceAll("'(\\\\.|[^'])'", "' '").replaceAll("\"(\\\\.|[^\"\\\\])*\"", "\"\"");
-        for (String word : new String[] {"throw", "throws", "try", "catch", "finally", "synchronized", "assert", "import", "package",
-                "instanceof", "yield", "var", "protected", "volatile", "native", "Object", "System", "Exception", "Thread",
-                "goto", "record", "enum", "interface"}) {
+        for (String word : new String[] {"throw", "throws", "try", "catch", "finally", "synchronized", "assert", "package",
+                "protected", "volatile", "native", "Object", "Exception", "Thread", "hashCode"}) {
             BENCH.due("no " + word, Pattern.compile("\\b" + word + "\\b").matcher(bare).find(), false);
         }
+        // An arrow is fine in a switch alone.
+        String plain = bare.replaceAll("\\b(case\\b[^>\n]*|default\\s*)->", "").replace("@Override", "");
         for (String signs : new String[] {"->", "::", "static {", "@", "\"\" +", "+ \"\""}) {
-            BENCH.due("no " + signs, bare.contains(signs), false);
+            BENCH.due("no " + signs, plain.contains(signs), false);
         }
-        Set<String> library = new TreeSet<>();
-        Matcher matcher = Pattern.compile("\\b(Math|Integer|Long|Arrays|Character|Byte|Short)\\s*\\.\\s*\\w+").matcher(bare);
+        Matcher matcher = Pattern.compile("(?m)^import (.*);$").matcher(bare);
         while (matcher.find()) {
-            library.add(matcher.group());
+            BENCH.due("import " + matcher.group(1), matcher.group(1).matches("java\\.util\\.(ArrayList|List|Arrays|Iterator)"), true);
         }
-        BENCH.due("the library", library.toString(), "[Math.max]");
-        // Outside of a constructor nothing is made, so that a run's room never fills.
-        matcher = Pattern.compile("(?m)^ +.*\\bnew\\b.*$").matcher(bare);
+        matcher = Pattern.compile("\\b(System|Math|Integer|Long|Arrays|Character|Byte|Short)\\s*\\.\\s*(\\w+)").matcher(bare);
         while (matcher.find()) {
-            BENCH.due("made in a constructor: " + matcher.group().trim(), matcher.group().matches(" +(Reader |Tree )?\\w+ = new .*"), true);
+            boolean fine = switch (matcher.group(1)) {
+                case "System" -> matcher.group(2).equals("arraycopy");
+                case "Arrays" -> matcher.group(2).matches("copyOf|copyOfRange|fill");
+                case "Math", "Integer", "Long" -> !matcher.group(2).endsWith("Exact") && !matcher.group(2).equals("random");
+                default -> false;
+            };
+            BENCH.due("the library: " + matcher.group(), fine, true);
         }
         lengths(code);
     }

@@ -83,11 +83,9 @@ public final class ProgramOracleTest {
     }
 
     private static int compare(Random random, List<int[]> rows) {
-        BerkeleySieve x = new BerkeleySieve();
-        for (int[] row : rows) {
-            x.put(row[0], row[1], row[2], row[3]);
-        }
-        String shown = Bench.numbers(x);
+        int[][] all = rows.toArray(new int[0][]);
+        BerkeleySieve x = Bench.program(all);
+        String shown = Bench.numbers(() -> Bench.program(all));
         int[] fault = fault(rows);
         BENCH.due("bad() of " + shown, x.bad(), fault[0]);
         BENCH.due("why() of " + shown, x.why(), fault[1]);
@@ -106,11 +104,17 @@ public final class ProgramOracleTest {
         BENCH.due("run of " + shown, result, run(rows, bytes));
         Plainer plainer = new Plainer(rows);
         BENCH.due("plainer() of " + shown, x.plainer(), plainer.times());
-        BENCH.due("the plainer one of " + shown, Bench.numbers(x), plainer.numbers());
+        BENCH.due("the plainer one of " + shown, Bench.numbers(() -> madePlainer(all)), plainer.numbers());
         BENCH.due("why() of the plainer one of " + shown, x.why(), 0);
         String then = ran(x);
         BENCH.due("the plainer one's answer of " + shown, then.split(" ")[1], result.split(" ")[1]);
         return 1;
+    }
+
+    private static BerkeleySieve madePlainer(int[][] rows) {
+        BerkeleySieve x = Bench.program(rows);
+        x.plainer();
+        return x;
     }
 
     private static String ran(BerkeleySieve x) {

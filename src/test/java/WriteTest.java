@@ -78,8 +78,6 @@ public final class WriteTest {
 
     private static void far() {
         written(0x05, 0, 0, 1000000, "ja L1000002");
-        // A jump doesn't wrap: what would lead back leads to no instruction.
-        written(0x05, 0, 0, -1, "ja L4294967297");
         written(0x45, 255, 255, -1, "jset #4294967295,L257,L257");
         written(0xb1, 0, 0, -1, "ldx 4*([4294967295]&0xf)");
     }
