@@ -294,7 +294,8 @@ public final class ExpressionEdgesTest {
     private static void placeOfByte() {
         BENCH.says("the place of the first BYTE with which no EXPRESSION goes on");
         for (String marked : new String[] {"~)", "~]=1", "~+1=1", "~?", "1~?", "1=~?", "1=1~?", "1=1 ~?", "(~)", "(1~]", "[1~)", "1+~*1=1",
-                "1<<~<1=1", "1=1~)", "(1=1)~)", "1=1~]", "1~,1", "1=1~;", "~#1=1", "~M[1]=1", "~-1=1", "1=~-1"}) {
+                "1<<~<1=1", "1=1~)", "(1=1)~)", "1=1~]", "1~,1", "1=1~;", "~#1=1", "~M[1]=1", "~-1=1", "1=~-1",
+                "1=2<~3", "1=2>~=3", "[1<~2]=3", "1=(2>~3)"}) {
             wrong(marked);
         }
     }

@@ -23,12 +23,14 @@ public final class RunEdgesTest {
         endsReturning0();
         sumsWrap();
         productsWrap();
+        bitsOfNumbers();
         negation();
         divisions();
         zeroDivisors();
         shifts();
         comparisons();
         commonBits();
+        wordsAndMoves();
         returns();
         notValid();
         ranOthers();
@@ -294,6 +296,19 @@ public final class RunEdgesTest {
         calculates(0x24, 5, 0, 0);
     }
 
+    private static void bitsOfNumbers() {
+        BENCH.says("add .. xor: A is A and K (or X), that done to them");
+        calculates(0x44, TOP, BELOW_TOP, -1);
+        calculates(0x44, 0x0f0f, 0x00ff, 0x0fff);
+        calculates(0x44, 0, 0, 0);
+        calculates(0x54, TOP, BELOW_TOP, 0);
+        calculates(0x54, 0x0f0f, 0x00ff, 0x000f);
+        calculates(0x54, -1, -1, -1);
+        calculates(0xa4, TOP, -1, BELOW_TOP);
+        calculates(0xa4, 0x0f0f, 0x00ff, 0x0ff0);
+        calculates(0xa4, -1, -1, 0);
+    }
+
     private static void negation() {
         BENCH.says("neg: A is 0 less A");
         for (int[] pair : new int[][] {{0, 0}, {1, -1}, {-1, 1}, {TOP, TOP}, {BELOW_TOP, TOP + 1}, {TOP + 1, BELOW_TOP}}) {
@@ -381,6 +396,31 @@ public final class RunEdgesTest {
         branches(0x45, TOP, TOP, true);
         branches(0x45, TOP, BELOW_TOP, false);
         branches(0x45, TOP, -1, true);
+    }
+
+    private static void wordsAndMoves() {
+        BENCH.says("st, stx: M[K] is A, X");
+        for (int word : new int[] {0, 1, 14, 15}) {
+            for (int number : new int[] {0, 1, BELOW_TOP, TOP, -1}) {
+                int[] a = Bench.row(0, number);
+                int[] other = Bench.row(1, 5);
+                int[] ret = Bench.row(0x16, 0);
+                BerkeleySieve x = ran(0, 1, a, other, Bench.row(2, word), Bench.row(0, 6), Bench.row(0x60, word), ret);
+                BENCH.due("ran(0) of ld M[" + word + "]", x.ran(0), number);
+                BENCH.due("ran(" + (10 + word) + ")", x.ran(10 + word), number);
+                BENCH.due("ran(" + (10 + (word ^ 1)) + ")", x.ran(10 + (word ^ 1)), 0);
+                x = ran(0, 1, a, Bench.row(7, 0), Bench.row(3, word), Bench.row(1, 6), Bench.row(0x61, word), ret);
+                BENCH.due("ran(3) of ldx M[" + word + "]", x.ran(3), number);
+                BENCH.due("ran(" + (10 + word) + ") of stx", x.ran(10 + word), number);
+                BENCH.says("tax: X is A; txa: A is X");
+                x = ran(0, 1, a, other, Bench.row(7, 0), ret);
+                BENCH.due("ran(3) of tax", x.ran(3), number);
+                BENCH.due("ran(2) of tax", x.ran(2), number);
+                x = ran(0, 1, Bench.row(0, 5), Bench.row(1, number), Bench.row(0x87, 0), ret);
+                BENCH.due("ran(2) of txa", x.ran(2), number);
+                BENCH.due("ran(3) of txa", x.ran(3), number);
+            }
+        }
     }
 
     private static void returns() {
