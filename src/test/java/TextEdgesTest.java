@@ -39,6 +39,7 @@ public final class TextEdgesTest {
         faultOthers();
         writtenNumbers();
         writtenJumps();
+        writtenLabels();
         writtenCodes();
         writeNoneSuch();
         outWithout();
@@ -523,6 +524,13 @@ public final class TextEdgesTest {
         BENCH.due("write(200)", x.write(200), -1);
         x = Bench.program(Bench.row(5, 0));
         BENCH.due("instruction 0", Bench.written(x, 0), "ja L1");
+    }
+
+    private static void writtenLabels() {
+        BENCH.says("(these aren't LABELS that can be assembled)");
+        wrong("ja L5", "1@1");
+        wrong("jeq #2048,L3,L7", "1@1");
+        wrong("L5: ret a", "1@1");
     }
 
     private static void writtenCodes() {
