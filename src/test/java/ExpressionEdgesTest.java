@@ -29,10 +29,12 @@ public final class ExpressionEdgesTest {
         numberInBrackets();
         deep();
         sixteenWords();
+        seventeenthAnywhere();
         sixteenWordsOfATest();
         secondSum();
         instructions200();
         instructions200OfTests();
+        the201stAnywhere();
         longestJumps();
         wrongAheadOfCantBe();
         programStays();
@@ -380,6 +382,28 @@ public final class ExpressionEdgesTest {
         count("1-(".repeat(19) + "len" + ")".repeat(19) + "=1", 80);
     }
 
+    private static void seventeenthAnywhere() {
+        BENCH.says("(Where M[16] would be needed it can't be.");
+        // Whatever stands before it or behind it, which alone could be.
+        for (String right : new String[] {"-[1]", "/0"}) {
+            String last = "1" + right.repeat(16);
+            String first = last + right;
+            count("(" + last + "=1)and 1=1", 4 * 16 + 6);
+            count("1=1 or " + last + "=1 and 1=1", 4 * 16 + 8);
+            count("[" + last + "]+1=1", 4 * 16 + 7);
+            cantBe("(" + first + "=1)and 1=1");
+            cantBe("(" + first + "=1)or 1=1");
+            cantBe("1=1 or " + first + "=1");
+            cantBe("1=1 or " + first + "=1 and 1=1");
+            cantBe("not(" + first + "=1)and 1=1 or 2=2");
+            cantBe("(1=1 and " + first + "=1)or(1=1 and 2=2)");
+            cantBe("[" + first + "]+1=1");
+            cantBe("[" + first + "]=1 or 1=1");
+            cantBe("len=" + first);
+            cantBe("(" + first + ")=len or len=1");
+        }
+    }
+
     private static void sixteenWordsOfATest() {
         BENCH.says("CODE of the second one at 0, st M[0], CODE of the first one at 1, ldx M[0], the jump with x");
         count("1" + "-[1]".repeat(15) + "=[1]", 4 * 15 + 7);
@@ -421,6 +445,22 @@ public final class ExpressionEdgesTest {
         count(sums + "1=1" + "-1".repeat(7), 11 * 16 + 14);
         count(sums + "1=1" + "-1".repeat(17), 200);
         cantBe(sums + "1=1" + "-1".repeat(18));
+    }
+
+    private static void the201stAnywhere() {
+        BENCH.says("whose PROGRAM would have more than 200 instructions");
+        // Three of these have 66 each, and with the two ret they are 200.
+        String test = "1" + "/0".repeat(16) + "=1";
+        for (String word : new String[] {" or ", " and "}) {
+            count(test + word + test, 2 * 66 + 2);
+            count(test + word + test + word + test, 200);
+            cantBe("1-" + test + word + test + word + test);
+            cantBe(test + word + "1-" + test + word + test);
+            cantBe(test + word + test + word + "1-" + test);
+            cantBe(test + word + test + word + test + word + "1=1");
+            cantBe("1=1" + word + test + word + test + word + test);
+            cantBe(test + word + test + word + test + word + test + word + "(1=1 or 2=2)");
+        }
     }
 
     private static void longestJumps() {
