@@ -33,17 +33,17 @@ public final class BerkeleySieve {
         tape = new Bytes(TAPE_BYTES);
         frame = new Bytes(PACKET_BYTES);
         written = new Bytes(WRITTEN_SIGNS);
+        program = new Program();
+        draft = new Program();
         Reader reader = new Reader(tape);
         Tree tree = new Tree();
         judge = new Judge();
         machine = new Machine();
         simplifier = new Simplifier();
         writer = new Writer(written);
-        assembler = new Assembler(reader);
+        assembler = new Assembler(reader, draft);
         parser = new Parser(reader, tree);
-        coder = new Coder(tree);
-        program = new Program();
-        draft = new Program();
+        coder = new Coder(tree, draft);
         error = 0;
         errorPlace = NONE;
     }
@@ -1344,13 +1344,13 @@ public final class BerkeleySieve {
         private int labelsTold;
         private int line;
 
-        Assembler(Reader reader) {
+        Assembler(Reader reader, Program program) {
             this.reader = reader;
+            this.program = program;
             labels = new long[MOST_LABELS];
             yesLabels = new long[Program.MOST];
             noLabels = new long[Program.MOST];
             lines = new int[Program.MOST];
-            program = null;
             labelsTold = 0;
             line = 0;
         }
@@ -1879,13 +1879,13 @@ public final class BerkeleySieve {
         private Program program;
         private boolean impossible;
 
-        Coder(Tree tree) {
+        Coder(Tree tree, Program program) {
             this.tree = tree;
+            this.program = program;
             begins = new int[Tree.MOST];
             yesOf = new int[Tree.MOST];
             noOf = new int[Tree.MOST];
             wordOf = new int[Tree.MOST];
-            program = null;
             impossible = false;
         }
 
